@@ -121,14 +121,14 @@ public final class FindsOffice {
     }
 
     public int due(int person) {
-        return isPerson(person) ? allRewardsOf(person) - paidTo[person] : 0;
+        return isPerson(person) ? stillOpen(person) : 0;
     }
 
     public int settle(int person) {
         if (!isPerson(person)) {
             return 0;
         }
-        int open = allRewardsOf(person) - paidTo[person];
+        int open = stillOpen(person);
         paidTo[person] += open;
         return open;
     }
@@ -277,13 +277,13 @@ public final class FindsOffice {
         return landownerOf(find) == person ? reward + whole - finders : reward;
     }
 
-    private int allRewardsOf(int person) {
+    private int stillOpen(int person) {
         findBook.gatherHoards(now);
-        int sum = 0;
+        int open = isPerson(person) ? -paidTo[person] : 0;
         for (int number = 0; number < findBook.told; number++) {
-            sum += rewardFor(number, person);
+            open += rewardFor(number, person);
         }
-        return sum;
+        return open;
     }
 
     private int hoardsNow() {
